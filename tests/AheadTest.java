@@ -53,6 +53,7 @@ public final class AheadTest {
     private static void thenWay() {
         FoxRounds x = house();
         x.way(2, 9905, 7);
+        due("20: now", x.thenWay(0, 1, 6), -20);
         int[] parts = {2, 99, 5, 7, 3, 0, -11};
         for (int what = 0; what < 7; what++) {
             due("20: what " + what, x.thenWay(3, 1, what), parts[what]);
@@ -80,6 +81,8 @@ public final class AheadTest {
         due("21: n 61", x.loss(61), BEYOND);
         x.nights(5);
         due("21: more than now", x.loss(60), 7);
+        x.nights(6);
+        due("21: tonight", x.loss(1), 1);
         Due.text(x, 1, "0");
         due("21: it gets in and kills none", x.loss(60), Due.NONE);
     }
@@ -87,6 +90,11 @@ public final class AheadTest {
     private static void by() {
         FoxRounds x = house();
         due("22: none", x.by(), -1);
+        x.set(2, 31);
+        due("22: tomorrow", x.by(), -1);
+        x.set(2, 36);
+        due("22: not tomorrow", x.by(), 0);
+        x.set(2, 20);
         x.way(0, 0, 0);
         due("22: by 1", x.by(), 1);
         x.set(2, 99);
@@ -102,8 +110,15 @@ public final class AheadTest {
         FoxRounds x = house();
         due("23: n 0", x.mends(999, 0, 0), 0);
         due("23: HENS now", x.mends(999, 0, 1), 11);
+        due("23: by 4", x.mends(0, 4, 1), 11);
+        due("23: of no COST", x.mends(0, 5, 0), 1);
+        x.wear(0, 1, 0);
+        x.set(2, 46);
+        due("23: MENDED, too", x.mends(0, 1, 1), 8);
         x = new FoxRounds();
         x.way(0, 4000, 10);
+        due("23: by 4", x.mends(9, 4, 1), 11);
+        due("23: by 5", x.mends(9, 5, 1), 8);
         x.way(0, 4500, 10);
         x.set(2, 50);
         due("23: both", x.mends(20, 1, 0), 3);
@@ -161,6 +176,9 @@ public final class AheadTest {
         due("24: only those that aren't", x.hangs(1, 1), Due.NONE);
         x.hang(1, 0);
         x.thing(0, 0);
+        due("24: of three", x.hangs(2, 0), 1);
+        due("24: of three", x.hangs(2, 1), 0);
+        due("24: of three", x.hangs(2, 2), 2);
         x.thing(0, 0);
         due("24: of several the first", x.hangs(2, 0), 1);
         due("24: of several the first", x.hangs(2, 1), 0);
@@ -173,6 +191,21 @@ public final class AheadTest {
         due("24: BEYOND ahead of STATE", x.hangs(2, -2), BEYOND);
         x.hang(3, 1);
         due("24: four again", x.hangs(2, 3), 4);
+    }
+
+    private static void theLastOrder() {
+        FoxRounds x = new FoxRounds();
+        // FEAR must come to 3, 5, 6, 6: FRIGHTS of 3, 2, 1, 0.
+        Due.text(x, 0, "!(t=0&b=17|t=1&b=20|t=2&b=24|t=3&b=29)");
+        x.way(0, 9900, 0);
+        for (int fright = 0; fright < 4; fright++) {
+            x.thing(fright, 0);
+        }
+        x.set(2, 15);
+        for (int i = 0; i < 4; i++) {
+            due("24: the last row of all", x.hangs(4, i), 3 - i);
+        }
+        due("24: HENS", x.hangs(4, -1), 11);
     }
 
     /** It must be frightened the second NIGHT by what fades fast: hung up first that would be gone. */
@@ -196,6 +229,7 @@ public final class AheadTest {
         by();
         mends();
         hangs();
+        theLastOrder();
         oneEachNight();
         Due.end();
     }

@@ -24,7 +24,7 @@ public final class ImagesTest {
         x.tell(-1);
         x.tell(5);
         x.dusk(3, 777);
-        x.yard(2, 33, 44, 1);
+        x.yard(0, 20, 30, 1);
         x.seed(99);
         return x;
     }
@@ -40,14 +40,18 @@ public final class ImagesTest {
         x.wear(0, 5, 0);
         x.hang(0, 0);
         x.thing(1, 1);
-        x.feed(0, 8);
+        x.text(0);
         Due.text(x, 0, "1");
         Due.text(x, 1, "1");
         Due.text(x, 2, "1");
         x.feed('9', 1);
         x.check();
+        x.tell(0);
+        x.tell(7);
+        x.tell(7);
         x.dusk(3, 0);
-        x.yard(2, 1, 1, 0);
+        x.yard(0, 40, 10, 0);
+        x.seed(5);
         x.nights(60);
     }
 
@@ -73,8 +77,9 @@ public final class ImagesTest {
         due("40: THE TAPE", x.text(2), 1);
         due("40: was a+1", x.law(2, 50, 0, 0), 51);
         due("40: DUSK", x.dusk(3, 0), 777);
-        due("40: shut", x.village(1), 0);
-        due("40: PRICE", x.yard(2, 0, 0, 0), 33);
+        due("40: LOSS", x.village(1), 1);
+        due("40: shut", x.village(0), 1);
+        due("40: PRICE", x.yard(0, 0, 0, 0), 20);
         int[] numbers = {50, 2, 30, 10, 1, 300, 10, 60};
         for (int i = 0; i < 8; i++) {
             due("40: set(" + i + ")", x.set(i, numbers[i]), numbers[i]);

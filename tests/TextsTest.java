@@ -170,6 +170,17 @@ public final class TextsTest {
         fault(0, "1+1+1+1+1+1+1+1+1+1+1+1+1+1+1+1+1+1+1+1+1+1+1+1+1+", 50);
     }
 
+    private static void afterAFault() {
+        FoxRounds x = new FoxRounds();
+        due("15: (((((1+!", Due.text(x, 0, "(((((1+!"), -17);
+        due("15: behind it", Due.text(x, 0, "!(e+1)"), 1);
+        due("16: by that", x.law(0, 0, 0, 0), 0);
+        due("15: 9*(", Due.text(x, 0, "9*("), -13);
+        due("15: behind it", Due.text(x, 0, "2)"), -11);
+        due("15: behind it", Due.text(x, 0, "2"), 1);
+        due("16: by that", x.law(0, 0, 0, 0), 2);
+    }
+
     private static void laws() {
         FoxRounds x = new FoxRounds();
         due("16: use 3", x.law(3, 0, 0, 0), BEYOND);
@@ -203,6 +214,7 @@ public final class TextsTest {
         feed();
         values();
         faults();
+        afterAFault();
         laws();
         Due.end();
     }

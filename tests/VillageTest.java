@@ -56,8 +56,14 @@ public final class VillageTest {
         for (int month = 0; month < 12; month++) {
             x.dusk(month, 0);
         }
+        x.set(7, 0);
+        due("27: the first MINUTE", x.clock(), 0);
+        for (int month = 0; month < 12; month++) {
+            x.dusk(month, 1);
+        }
+        due("27: the second MINUTE", x.clock(), 1);
         x.set(7, -120);
-        due("26: a fox all day", x.harm(0), 60);
+        due("26: a fox all day", x.harm(1), 60);
     }
 
     private static void odds(int pq, int n, long above, long below) {
@@ -171,6 +177,21 @@ public final class VillageTest {
         put(x, 0, 8, 99);
         due("32: none is dead", x.hungry(0), 0);
         due("32: nothing changes", x.count(0), 0);
+        put(x, 0, 8, 8);
+        hungryBy(x, "b=5", 0);
+        hungryBy(x, "b=6", 1);
+        hungryBy(x, "b=7", 2);
+        hungryBy(x, "b=103", 98);
+        Due.text(x, 1, "3");
+        hungryBy(x, "b=103|b=104", 98);
+        hungryBy(x, "b=104", 99);
+        hungryBy(x, "b=105", 0);
+    }
+
+    private static void hungryBy(FoxRounds x, String enters, int hunger) {
+        Due.text(x, 1, "3");
+        Due.text(x, 0, enters);
+        due("32: HUNGER by " + enters, x.hungry(0), hunger);
     }
 
     public static void main(String[] args) {

@@ -580,7 +580,7 @@ public final class FoxRounds {
             most = least;
             least = rest;
         }
-        return most;
+        return Math.max(1, most);
     }
 
     private static long power(int base, int n) {
@@ -1351,7 +1351,7 @@ public final class FoxRounds {
 
     /** The BODIES that a VOICE runs through, and THE TRACE of them. */
     private static final class Voices {
-        // Eight calls stand open at the most: no KIND is more than two below WAY.
+        // Six stand open at the most, as a CLOCKED WAY tells; this is only a guard.
         private static final int DEEPEST = 40;
         final int[] trace = new int[MOST_BODIES];
         int traced = 0;

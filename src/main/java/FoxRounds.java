@@ -364,7 +364,7 @@ public final class FoxRounds {
         if (!within(q, 1, 9) || !within(p, 0, q) || !within(n, 0, 12) || !within(part, 0, 1)) {
             return error(BEYOND);
         }
-        int common = commonDivisor(q - p, q);
+        int common = Math.max(1, commonDivisor(q - p, q));
         // Powers of numbers without a common divisor have none either.
         return power((part == 0 ? q - p : q) / common, n);
     }
@@ -580,7 +580,7 @@ public final class FoxRounds {
             most = least;
             least = rest;
         }
-        return Math.max(1, most);
+        return most;
     }
 
     private static long power(int base, int n) {
@@ -1237,7 +1237,7 @@ public final class FoxRounds {
             listIdle();
             int rest = place;
             for (int i = 0; i < k; i++) {
-                int rows = FACTORIAL[k - 1 - i];
+                int rows = Math.max(1, FACTORIAL[k - 1 - i]);
                 int pick = Math.min(rest / rows, k - 1 - i);
                 rest %= rows;
                 row[i] = idle[pick];
